@@ -4,19 +4,16 @@ public final class TonesTest {
 
     public static void main(String[] args) {
         int[] t = new int[4];
-        FiddlePlates x = new FiddlePlates();
-        int used = 0;
         for (int shape = 0; shape < 6561; shape++) {
             t[0] = shape / 729 + 1;
             t[1] = shape / 81 % 9 + 1;
             t[2] = shape / 9 % 9 + 1;
             t[3] = shape % 9 + 1;
-            x = new FiddlePlates();
-            x.plate(t[0], t[1], t[2], t[3]);
-            used = 1;
+            FiddlePlates x = null;
+            int used = 0;
             for (int wood = 0; wood < 81; wood++) {
                 // an object serves 512 calls
-                if (used > 490) {
+                if (x == null || used > 490) {
                     x = new FiddlePlates();
                     x.plate(t[0], t[1], t[2], t[3]);
                     used = 1;
