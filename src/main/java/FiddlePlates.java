@@ -394,26 +394,27 @@ public final class FiddlePlates {
      */
     private static final class Signs {
         static int bondAt(int[] strips, int s, int i) {
-            if (i <= 0) {
-                return s * cube(strips[0]) / 32 + 1;
+            if (i <= 0 || i >= STRIPS) {
+                int rim = i <= 0 ? strips[0] : strips[STRIPS - 1];
+                return s * rim * rim * rim / 32 + 1;
             }
-            if (i >= STRIPS) {
-                return s * cube(strips[STRIPS - 1]) / 32 + 1;
-            }
-            return s * cube(Math.min(strips[i - 1], strips[i])) / 8 + 1;
-        }
-
-        private static int cube(int t) {
-            return t * t * t;
+            int lesser = strips[i - 1] < strips[i] ? strips[i - 1] : strips[i];
+            return s * lesser * lesser * lesser / 8 + 1;
         }
 
         /**
          * How many values of WOOD (s, 1) are less than y: the changes of sign along the leading
          * minors of MATRIX less y times MASSES. A minor of 0 is passed over: no BOND is 0, so
          * both its neighbours have unlike signs; and as the last one it tells a value that is y
-         * itself. For y up to 501 * 9 every minor stays within a long.
+         * itself. Within the bounds of all values every minor stays within a long.
          */
         static int valuesBelow(int[] strips, int s, int y) {
+            if (y <= 0) {
+                return 0;
+            }
+            if (y >= 2 * HALF_OF_VALUES) {
+                return TONES;
+            }
             int changes = 0;
             boolean negative = false;
             long before = 0;
@@ -652,25 +653,18 @@ public final class FiddlePlates {
             return all;
         }
 
+        /** Asks by counts alone, as finding a TONE takes nine of them. */
         boolean metBy(int[] strips, House house) {
             for (int k = 0; k < TONES; k++) {
-                if (set[k] && !toneMetBy(strips, house, k)) {
-                    return false;
-                }
-            }
-            return true;
-        }
-
-        /** Asks by counts alone, as finding a TONE takes nine of them. */
-        private boolean toneMetBy(int[] strips, House house, int k) {
-            for (int s = 1; s <= STIFFEST; s++) {
-                int heavy = house.heavy[s];
-                if (heavy > 0 && Signs.valuesBelow(strips, s, from[k] * heavy) > k) {
-                    return false;
-                }
-                int light = house.light[s];
-                if (light > 0 && Signs.valuesBelow(strips, s, (to[k] + 1) * light) <= k) {
-                    return false;
+                for (int s = 1; set[k] && s <= STIFFEST; s++) {
+                    int heavy = house.heavy[s];
+                    if (heavy > 0 && Signs.valuesBelow(strips, s, from[k] * heavy) > k) {
+                        return false;
+                    }
+                    int light = house.light[s];
+                    if (light > 0 && Signs.valuesBelow(strips, s, (to[k] + 1) * light) <= k) {
+                        return false;
+                    }
                 }
             }
             return true;
@@ -709,8 +703,8 @@ public final class FiddlePlates {
                 for (int b = 0; b <= Math.min(n - a, room[1]); b++) {
                     int rest = n - a - b;
                     for (int c = Math.max(0, rest - room[3]); c <= Math.min(rest, room[2]); c++) {
-                        take(a, b, c, rest - c);
-                        if (endMeets(strips, house, aims)) {
+                        take(strips, a, b, c, rest - c);
+                        if (aims.metBy(end, house)) {
                             return true;
                         }
                     }
@@ -719,18 +713,14 @@ public final class FiddlePlates {
             return false;
         }
 
-        private void take(int a, int b, int c, int d) {
+        private void take(int[] strips, int a, int b, int c, int d) {
             taken[0] = a;
             taken[1] = b;
             taken[2] = c;
             taken[3] = d;
-        }
-
-        private boolean endMeets(int[] strips, House house, Aims aims) {
             for (int i = 0; i < STRIPS; i++) {
                 end[i] = strips[i] - taken[i];
             }
-            return aims.metBy(end, house);
         }
 
         int stripOf(int shaving) {

@@ -29,6 +29,7 @@ public final class PromisesTest {
         plan();
         planOfSeveral();
         planned();
+        plannedAsAllIsNow();
         carve();
         off();
         even();
@@ -626,6 +627,41 @@ public final class PromisesTest {
         tapOfNoWood(0);
         due("no wood", x.planned(1, 0), NOT);
         due("BAD ahead of NOT", x.planned(1, -1), BAD);
+    }
+
+    /** THE PLAN is asked right ahead of each call that changes it, and right behind it. */
+    private static void plannedAsAllIsNow() {
+        start(20);
+        x.least(1);
+        x.plate(5, 5, 2, 5);
+        x.aim(1, 0, 4);
+        due("the thinnest", x.planned(0, 0), 2);
+        x.mirror(0);
+        due("mirrored", x.planned(0, 0), 1);
+        x.least(3);
+        due("behind least", x.planned(0, 0), 0);
+        x.least(1);
+        due("behind least again", x.planned(0, 0), 1);
+        x.shave(0, 1);
+        due("shaved", x.planned(0, 0), NONE);
+        x.undo(0);
+        due("undone", x.planned(0, 0), 1);
+        x.aim(1, 0, 500);
+        due("behind aim", x.planned(0, 0), NONE);
+        x.aim(1, 0, 4);
+        due("behind aim again", x.planned(0, 0), 1);
+        x.tap(0, 1, 0, 4);
+        due("tapped", x.planned(0, 0), NONE);
+        x.untap(0);
+        due("untapped", x.planned(0, 0), 1);
+        x.plate(5, 5, 2, 5);
+        due("of another plate", x.planned(1, 0), 2);
+        due("of the first", x.planned(0, 0), 1);
+        due("carve", x.carve(0), 1);
+        due("carved", x.planned(0, 0), NONE);
+        due("the other is not", x.planned(1, 0), 2);
+        x.aimless();
+        due("behind aimless", x.planned(1, 0), NONE);
     }
 
     private static void carve() {
