@@ -572,7 +572,7 @@ public final class FiddlePlates {
         }
 
         int leastTone(int[] values) {
-            int found = Integer.MAX_VALUE;
+            int found = 2 * HALF_OF_VALUES;
             for (int s = 1; s <= STIFFEST; s++) {
                 if (heavy[s] > 0) {
                     found = Math.min(found, Signs.byWeight(values[s], heavy[s]));
